@@ -238,14 +238,39 @@ public final class PromiseTest {
         faulty("cause c 1 up 1;", 1, 10);
         faulty("cause c 1 lean;", 1, 14);
         faulty("law up 1;", 1, 4);
+        faulty("law hooks 1;", 1, 4);
+        faulty("law cause 1;", 1, 4);
+        faulty("cause c 1 knock 1;", 1, 10);
+        faulty("cause c 1 cause 1;", 1, 10);
+        faulty("gate a 24 24 20 gap - 1;", 1, 20);
+        faulty("gate a 24 24 20 latch - 1 1;", 1, 22);
+        faulty("gate a 24 24 20 latch 1 - 1;", 1, 24);
+        faulty("gate a 24 24 20 rise 0 - 1;", 1, 23);
+        faulty("work w 5 wire - 1;", 1, 14);
+        cutText("gate a 24 24 2000;", 15, 1, 15);
+        cutText("gate a 24 24 2000;", 14, 2, 13);
+        cutText("gateb 24 24 20;", 4, 1, 4);
+        cutText("law lean 1<=2;", 11, 1, 11);
         faulty("law 1;", 1, 4);
         faulty("law lean;", 1, 8);
+    }
+
+    /** What stands on the tape behind the text's end is none of it. */
+    private static void cutText(String tape, int length, int fault, int place) {
+        SagGates x = new SagGates();
+        feed(x, tape);
+        due("text(" + length + ") of '" + tape + "'", x.text(length), -1);
+        due("fault", x.fault(0), fault);
+        due("place", x.fault(1), place);
     }
 
     private static void faultTooMuch() {
         promise = 4;
         faulty("gate a 145 24 20;", 2, 7);
+        faulty("gate a 23 24 20;", 2, 7);
         faulty("gate a 24 23 20;", 2, 10);
+        faulty("gate a 24 73 20;", 2, 10);
+        faulty("gate a 24 24 401;", 2, 13);
         faulty("gate a 24 24 19;", 2, 13);
         faulty("gate a 99999999999999999999 24 20;", 2, 7);
         faulty("gate a 4294967320 24 20;", 2, 7);
@@ -267,13 +292,19 @@ public final class PromiseTest {
         faulty("gate a 24 24 20 rise 0 0 0 0 0 0 0 0 201;", 2, 37);
         good("gate a 24 24 20 latch 9999 0 child 200 gap 9999 rise 200 0 0 0 0 0 0 0 200;", 1);
         faulty("ground 1 2 3 4 5 6 7 8 9 10 11 100;", 2, 31);
+        faulty("ground 0;", 2, 7);
+        good("ground 99 1 1 1 1 1 1 1 1 1 1 99;", 1);
+        faulty("work w 0 brace;", 2, 7);
         faulty("work w 1000 brace;", 2, 7);
+        faulty("work w 1 wheel 101;", 2, 15);
         faulty("work w 1 wire 10000;", 2, 14);
         faulty("work w 1 rehang 10000;", 2, 16);
         faulty("work w 1 stones 100;", 2, 16);
         faulty("work w 1 post 61;", 2, 14);
         good("work a 999 wire 9999;work b 1 rehang 9999;work c 1 stones 99;work d 1 post 60;work e 1 wheel 100;", 5);
         faulty("cause c 0 lean 1;", 2, 8);
+        faulty("cause c 100 lean 1;", 2, 8);
+        faulty("cause c 99 lean 0;", 2, 16);
         faulty("cause c 99 lean 1000;", 2, 16);
         good("cause c 99 lean 999;", 1);
         String causes = "";
@@ -283,6 +314,18 @@ public final class PromiseTest {
         good(causes, 6);
         faulty(causes + "cause a 1 lean 1;", 2, causes.length());
         faulty(causes + "cause", 2, causes.length());
+        String works = "";
+        for (char c = 'a'; c < 'g'; c++) {
+            works += "work " + c + " 1 brace;";
+        }
+        good(works, 6);
+        faulty(works + "work a 1 brace;", 2, works.length());
+        String gates = "";
+        for (char c = 'a'; c < 'e'; c++) {
+            gates += "gate " + c + " 24 24 20;";
+        }
+        good(gates, 4);
+        faulty(gates + "gate a 24 24 20;", 2, gates.length());
     }
 
     private static void faultTold() {
@@ -504,6 +547,20 @@ public final class PromiseTest {
         knocks("1 / 0", Long.MIN_VALUE);
         knocks("(0 - 7) / 2", -3);
         knocks("7 / (0 - 2)", -3);
+        knocks("0 or 0", 0);
+        knocks("0 - 1 or 0", 1);
+        knocks("1 and 1", 1);
+        knocks("1 and 0", 0);
+        knocks("2 < 2", 0);
+        knocks("3 <= 2", 0);
+        knocks("3 = 2", 0);
+        knocks("2 <> 2", 0);
+        knocks("1 >= 2", 0);
+        knocks("2 > 2", 0);
+        knocks("0 or not 0", 1);
+        knocks("1 and not 0", 1);
+        knocks("1 + 2 < 2 + 2", 1);
+        knocks("6 * 9 / 4", 13);
         knocks("10 - 3 - 2", 5);
         knocks("100 / 10 / 5", 2);
         knocks("2 + 3 * 4", 14);
@@ -523,6 +580,8 @@ public final class PromiseTest {
         knocks("1000 * 1000 * 1000 * 1000", 1000000000000L);
         knocks("1000 * 1000 * 1000 * 1000 + 1", Long.MIN_VALUE);
         knocks("1000 * 1000 * 1000 * 1000 + 1 - 1", Long.MIN_VALUE);
+        knocks("1000 * 1000 * 1000 * 999 + 1000 * 1000 * 1000", 1000000000000L);
+        knocks("1000 * 1000 * 1000 * 999 + 1000 * 1000 * 1000 + 1", Long.MIN_VALUE);
         knocks("0 - 1000 * 1000 * 1000 * 1000", -1000000000000L);
         knocks("0 - 1000 * 1000 * 1000 * 1000 - 1", Long.MIN_VALUE);
         knocks("1000 * 1000 * 1000 * 1000 * (1000 * 1000 * 1000 * 1000)", Long.MIN_VALUE);
@@ -568,9 +627,14 @@ public final class PromiseTest {
         due("gate -1", x.latched(-1), -1);
         SagGates y = told("law open 500;" + GATE + "work w 1 wire 2001;");
         y.weeks(2);
-        due("1000 without", y.latched(0), 1);
+        due("dropped by 1000 without", y.latched(0), 1);
         y.work(0, 0);
         due("risen by 1001", y.latched(0), 0);
+        SagGates z = told("law open 1001;" + GATE + "work w 1 wire 2001;");
+        z.weeks(1);
+        due("dropped by 1001", z.latched(0), 0);
+        z.work(0, 0);
+        due("risen by 1000 without", z.latched(0), 1);
     }
 
     private static void gives() {
@@ -636,6 +700,11 @@ public final class PromiseTest {
         x.weeks(1);
         for (int i = 19; i >= 0; i--) {
             due("undo", x.undo(), i);
+            int done = i + 4;
+            for (int gate = 0; gate < 4; gate++) {
+                int works = Math.max(0, Math.min(6, done - 6 * gate));
+                due("works done on " + gate + " with " + i + " left", x.look(gate, 9), (1 << works) - 1);
+            }
         }
         due("none left", x.undo(), -1);
         due("the first four stay", x.look(0, 9), 15);
@@ -751,6 +820,7 @@ public final class PromiseTest {
         promise = 19;
         SagGates x = told("law open child / 2;gate a 24 24 20 child 50;gate b 24 24 20;");
         due("two weeks", x.bears(0, 2, 20), 21);
+        due("0 itself", told("law open child * 9;" + GATE).bears(0, 1, 8), 0);
         due("all", x.bears(0, 2, 200), 200);
         due("just below", x.bears(0, 2, 199), 199);
         due("0", x.bears(0, 2, 1), 1);
@@ -923,6 +993,8 @@ public final class PromiseTest {
         y.weeks(1);
         due("square parts more than drop", y.test(0, 0), 2);
         due("its heaviest group", y.test(0, 1), 7);
+        y.measure(0, 0, 2, 23, 24);
+        due("two fit", y.test(0, 1), 7);
         y.measure(0, 0, 2, 24, 24);
         due("one alone fits", y.test(0, 0), -1);
         y.measure(0, 0, 2, 23, 23);
@@ -932,6 +1004,17 @@ public final class PromiseTest {
         due("gate 2", x.test(2, 0), -1);
         due("gate -1", x.test(-1, 0), -1);
         due("no causes", told(GATE).test(0, 0), -1);
+        SagGates w = told("cause a 5 lean 24;cause b 7 open 24;cause c 8 lean 25;cause d 2 open 25;gate g 24 24 20;");
+        w.weeks(1);
+        due("lean parts most", w.test(0, 0), 1);
+        due("lean's heaviest group", w.test(0, 1), 10);
+        SagGates v = told("cause a 5 lean 12;cause b 7 open 12;cause c 8 bend 6;gate g 24 24 20;");
+        v.weeks(1);
+        due("hooks part most", v.test(0, 0), 3);
+        due("hooks' heaviest group", v.test(0, 1), 13);
+        SagGates u = told("cause a 1 lean 1;cause b 2 lean 2;cause c 3 lean 3;cause d 4 lean 4;cause e 5 lean 5;cause f 9 lean 6;" + GATE);
+        u.weeks(1);
+        due("six causes and none", u.test(0, 1), 9);
         SagGates z = told("cause a 5 lean 1;cause b 7 lean 2;gate g 24 24 20;work p 1 post 0;");
         z.weeks(1);
         z.work(0, 0);
@@ -946,6 +1029,11 @@ public final class PromiseTest {
         due("by lean", x.low(0, 0), 375000);
         due("at right angles", x.low(0, 4), -200000);
         due("wide open", x.low(0, 8), -375000);
+        int[] c = {1000, 924, 707, 383, 0, -383, -707, -924, -1000};
+        int[] s = {0, 383, 707, 924, 1000, 924, 707, 383, 0};
+        for (int angle = 0; angle < 9; angle++) {
+            due("angle " + angle, x.low(0, angle), 375 * c[angle] - 200 * s[angle]);
+        }
         due("angle 9", x.low(0, 9), MIN);
         due("angle -1", x.low(0, -1), MIN);
         due("gate 1", x.low(1, 0), MIN);
@@ -1003,6 +1091,10 @@ public final class PromiseTest {
         x.weeks(1);
         due("dropped", x.opens(0), 1);
         due("not at 0", x.opens(1), -1);
+        SagGates y = told("law open 1;gate a 24 24 20 gap 0;gate b 24 24 20 gap 1;");
+        y.weeks(1);
+        due("one thousandth too low", y.opens(0), -1);
+        due("it just goes", y.opens(1), 8);
         due("gate 3", x.opens(3), -2);
         due("gate -1", x.opens(-1), -2);
     }
@@ -1023,6 +1115,15 @@ public final class PromiseTest {
         due("beyond a rise", x.stand(1, 5, 0), 2);
         due("beyond a rise, aside", x.stand(1, 5, 1), -8);
         due("none does", x.stand(2, 0, 0), MIN);
+        SagGates y = told("gate a 24 24 20 rise 0 0 0 0 150 0 0 0 0;gate b 24 24 20 rise 0 0 0 0 151 0 0 0 0;"
+            + "gate c 24 24 20 rise 0 0 0 0 0 0 0 0 150;law open 1;");
+        due("as far out as may be", y.stand(0, 4, 0), 30);
+        due("as far aside as may be", y.stand(0, 4, 1), -30);
+        due("not even so", y.stand(1, 4, 0), MIN);
+        due("out alone", y.stand(2, 8, 0), 30);
+        due("not aside", y.stand(2, 8, 1), 0);
+        y.weeks(1);
+        due("one thousandth too low", y.stand(0, 4, 0), MIN);
         due("angle 9", x.stand(0, 9, 0), MIN);
         due("angle -1", x.stand(0, -1, 0), MIN);
         due("what 2", x.stand(0, 0, 2), MIN);
@@ -1052,6 +1153,9 @@ public final class PromiseTest {
         due("from now on, first", y.first(1, 1), 0);
         due("from now on, second", y.first(1, 2), 1);
         due("nothing is made good", y.sags(0, 0), 30);
+        SagGates w = told("law open 10 * (week = 5);gate a 24 24 20 latch 0 9;");
+        w.weeks(4);
+        due("weeks to come by their numbers", w.first(3, 0), 2);
         SagGates z = told("gate a 24 24 20 latch 0 0;work w 1 wire 5;");
         z.work(0, 0);
         due("risen, made good", z.first(100, 0), 0);
@@ -1063,6 +1167,8 @@ public final class PromiseTest {
         // The first numbers of seed 0 are 0, 21468, 9988, 22117, 3498, 16927, 16045, 19741, 12122, 8410.
         due("by 2", x.wind(0, 0, 1, 2, 1), 6);
         due("by 7", x.wind(0, 0, 1, 7, 1), 1);
+        due("by 9 from seed 1", x.wind(0, 1, 9, 9, 109), windBy(1, 9, 9, 1, 109));
+        due("by 5 from the last seed", x.wind(0, 2147483647, 30, 5, 630), windBy(2147483647, 30, 5, 1, 630));
         due("by 1", x.wind(0, 0, 1, 1, 100), 10);
         due("by 1, not above", x.wind(0, 0, 1, 1, 101), 0);
         due("two weeks, some", x.wind(0, 0, 2, 1, 201), 10);
@@ -1077,6 +1183,20 @@ public final class PromiseTest {
         due("bound 100000", x.wind(0, 0, 1, 1, 100000), -1);
         due("bound -100000", x.wind(0, 0, 1, 1, -100000), -1);
         due("gate 1", x.wind(1, 0, 1, 1, 0), -1);
+    }
+
+    /** Draws for a gate that opens by its child each week. */
+    private static int windBy(long seed, int n, int w, int child, int bound) {
+        int many = 0;
+        for (int draw = 0; draw < 10; draw++) {
+            int drop = 0;
+            for (int week = 0; week < n; week++) {
+                seed = (seed * 1103515245L + 12345) % 2147483648L;
+                drop += seed / 65536 % w == 0 ? child + 100 : child;
+            }
+            many += drop > bound ? 1 : 0;
+        }
+        return many;
     }
 
     private static void keep() {
