@@ -96,6 +96,7 @@ public final class PromiseTest {
         firm();
         weeks();
         laws();
+        lawsOfTheTextInUse();
         errors();
         sags();
         latched();
@@ -526,6 +527,26 @@ public final class PromiseTest {
         due("the other one, too", z.sags(1, 3), 1000000);
     }
 
+    private static void lawsOfTheTextInUse() {
+        promise = 9;
+        SagGates x = told("law bend 1;" + GATE);
+        x.weeks(1);
+        tell(x, "law bend 2;law open firm;" + GATE);
+        x.weeks(1);
+        due("another text's law", x.sags(0, 3), 2);
+        due("another text's law by firm", x.sags(0, 2), 50);
+        tell(x, "law bend 3 + ;" + GATE);
+        x.weeks(1);
+        due("a faulty text's law", x.sags(0, 3), 4);
+        tell(x, "law open 1;" + GATE);
+        x.weeks(1);
+        due("no such law any more", x.sags(0, 3), 0);
+        SagGates y = told("law lean 1" + repeat("+1", 31) + ";law bend 7;" + GATE);
+        y.weeks(1);
+        due("the first of 64 knots", y.sags(0, 1), 32);
+        due("the last of 64 knots", y.sags(0, 3), 7);
+    }
+
     private static void grows(String law, int want) {
         SagGates x = told("law lean " + law + ";law knock " + law + ";" + GATE);
         x.weeks(1);
@@ -588,6 +609,10 @@ public final class PromiseTest {
         knocks("8192 * 4096 * 8192 * (8192 * 4096 * 2048)", Long.MIN_VALUE);
         knocks("1000 * 1000 * 1000 * 1000 * 0", 0);
         knocks("0 * (1000 * 1000 * 1000 * 1000)", 0);
+        knocks(repeat("not ", 62) + repeat("(", 8) + "1" + repeat(")", 8), 1);
+        knocks(repeat("not ", 63) + repeat("(", 8) + "1" + repeat(")", 8), 0);
+        knocks(repeat("(", 8) + repeat("not ", 63) + "1" + repeat(")", 8), 0);
+        knocks("1" + repeat("+1", 31), 32);
         knocks("fall", 7);
         knocks("week + firm + deep + thick + drop + child", 94);
     }
@@ -1015,6 +1040,11 @@ public final class PromiseTest {
         SagGates u = told("cause a 1 lean 1;cause b 2 lean 2;cause c 3 lean 3;cause d 4 lean 4;cause e 5 lean 5;cause f 9 lean 6;" + GATE);
         u.weeks(1);
         due("six causes and none", u.test(0, 1), 9);
+        SagGates t = told("law open 5;cause a 1 lean 12;cause b 2 lean 15;cause c 3 lean 18;cause d 4 lean 21;cause e 5 lean 24;"
+            + "cause f 9 lean 1;gate g 24 72 20;");
+        t.weeks(1);
+        due("none is grouped with one that it drops as far as", t.test(0, 0), 1);
+        due("the heaviest without it", t.test(0, 1), 9);
         SagGates z = told("cause a 5 lean 1;cause b 7 lean 2;gate g 24 24 20;work p 1 post 0;");
         z.weeks(1);
         z.work(0, 0);
