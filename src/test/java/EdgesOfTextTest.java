@@ -631,8 +631,20 @@ public final class EdgesOfTextTest {
         SagGates y = new SagGates();
         String eight = "law lean ((((((((not 1";
         Edges.due("eight open", Edges.tell(y, eight), -1);
-        Edges.due("eight open again", Edges.tell(y, eight + "))))))));"), 1);
-        Edges.due("knots", y.count(3), 2);
+        Edges.due("a sign that waits", Edges.tell(y, "law lean 7 - 1 *"), -1);
+        Edges.due("eight open again", Edges.tell(y, eight + "))))))));law open 9 * 9 - 8;" + Edges.GATE), 3);
+        Edges.due("knots", y.count(3), 7);
+        y.weeks(1);
+        Edges.due("lean", y.sags(0, 1), 0);
+        Edges.due("square", y.sags(0, 2), 73);
+        for (int texts = 0; texts < 5; texts++) {
+            Edges.due("64 knots", Edges.tell(y, LAW_OF_63 + ";law bend " + texts + ";" + Edges.GATE), 3);
+            y.weeks(1);
+            Edges.due("lean", y.sags(0, 1), 32);
+            Edges.due("hooks", y.sags(0, 3), texts);
+            Edges.due("65 knots", Edges.tell(y, LAW_OF_63 + ";law bend not 1;" + Edges.GATE), -1);
+            Edges.due("its place", y.fault(1), LAW_OF_63.length() + 14);
+        }
         Edges.due("told ahead in a faulty text", Edges.tell(y, "ground 1 1 1 1 1 1 1 1 1 1 1 1;law open 1;cause c 1 lean 1;gate a 24 24 20;work w 1 brace;#"), -1);
         Edges.due("told anew", Edges.tell(y, "ground 1 1 1 1 1 1 1 1 1 1 1 1;law open 1;cause c 1 lean 1;gate a 24 24 20;work w 1 brace;"), 5);
     }
@@ -826,6 +838,12 @@ public final class EdgesOfTextTest {
         }
         Edges.due("64 knots, a sign the last written", Edges.told("law lean not 1" + Edges.times("-1", 31) + ";").count(3), 64);
         Edges.due("64 knots of not", Edges.value(Edges.times("not ", 63) + "1"), 0);
+        for (int nots = 60; nots <= 63; nots++) {
+            String many = Edges.times("not ", nots);
+            Edges.due(nots + " not in eight parens", Edges.value("((((((((" + many + "1))))))))"), 1 - nots % 2);
+            Edges.due(nots + " not of eight parens", Edges.value(many + "((((((((1))))))))"), 1 - nots % 2);
+            Edges.due(nots + " not of eight parens, of 0", Edges.value(many + "((((((((0))))))))"), nots % 2);
+        }
         Edges.due("63 knots of sums", Edges.value("1" + Edges.times("+1", 31)), 32);
         Edges.due("sums in parens from the right", Edges.value(Edges.times("1+(", 8) + "1" + Edges.times("+1", 23) + Edges.times(")", 8)), 32);
     }
